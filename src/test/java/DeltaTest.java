@@ -12,6 +12,8 @@ public final class DeltaTest {
         fourDeltasAtMost();
         cheaperThanTheWhole();
         noRevokedBetween();
+        firstReleaseBetween();
+        eachAskedAlone();
         directions();
         wrongMachines();
         DUE.end();
@@ -192,6 +194,34 @@ public final class DeltaTest {
         isWay(x, 1000, 0);
         x.delta(0, 3, 30);
         isWay(x, 30, 1);
+    }
+
+    private static void firstReleaseBetween() {
+        RollStages x = fromFirstToLast(3);
+        Setting.give(x, 0, 1);
+        x.pin(0, 2);
+        x.delta(1, 0, 4);
+        x.delta(0, 2, 4);
+        isWay(x, 8, 2);
+        x.revoke(0);
+        isWay(x, 1000, 0);
+    }
+
+    /** Neither answer may lean on the other one's having been asked before. */
+    private static void eachAskedAlone() {
+        RollStages x = fromFirstToLast(3);
+        x.delta(0, 1, 4);
+        x.delta(1, 2, 4);
+        DUE.is(2, x.steps(0));
+        x.delta(0, 2, 5);
+        DUE.is(1, x.steps(0));
+        x.delta(0, 2, 3);
+        DUE.is(3, x.cost(0));
+        x.delta(0, 2, 2);
+        DUE.is(2, x.cost(0));
+        x.update(0);
+        DUE.is(0, x.cost(0));
+        DUE.is(0, x.steps(0));
     }
 
     private static void directions() {

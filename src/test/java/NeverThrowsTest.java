@@ -12,11 +12,19 @@ public final class NeverThrowsTest {
     public static void main(String[] args) {
         RollStages x = new RollStages();
         for (int i = 0; i < CALLS; i++) {
-            callAny(x);
+            // Beyond the 512th call the answers are free; that they come is what is asked.
+            DUE.text("an answer", answerOf(x));
         }
-        // Beyond the 512th call the answers are free; that they come is what is asked.
-        DUE.yes(true);
         DUE.end();
+    }
+
+    private static String answerOf(RollStages x) {
+        try {
+            callAny(x);
+            return "an answer";
+        } catch (RuntimeException e) {
+            return e.toString();
+        }
     }
 
     private static int any() {
