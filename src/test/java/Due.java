@@ -1,11 +1,24 @@
-/** Compares answers with those that are due, and tells the line of each call that differs. */
+/** Compares answers with those that are due; of each that differs it tells the line and the document's words. */
 final class Due {
     private final String test;
+    private String words = "";
+    private int sentences;
     private int asked;
     private int wrong;
+    private int askedBefore;
 
     Due(String test) {
         this.test = test;
+    }
+
+    /** The document's words by which the answers that follow are due. */
+    void by(String quoted) {
+        endSentence();
+        words = quoted;
+        sentences++;
+        if (!Doc.says(quoted)) {
+            tell("these words don't stand in the document");
+        }
     }
 
     void is(long want, long got) {
@@ -25,18 +38,40 @@ final class Due {
     }
 
     void end() {
-        System.out.println(test + ": " + asked + " answers, " + wrong + " not as due");
+        endSentence();
+        String parts = sentences == 0 ? "" : sentences + " sentences, ";
+        System.out.println(test + ": " + parts + asked + " answers, " + wrong + " not as due");
         if (wrong != 0 || asked == 0) {
             System.exit(1);
         }
     }
 
+    private void endSentence() {
+        if (sentences > 0 && asked == askedBefore) {
+            tell("nothing was asked by these words");
+        }
+        askedBefore = asked;
+    }
+
     private void compare(String want, String got) {
         asked++;
         if (!want.equals(got)) {
-            wrong++;
-            // 0 is this method, 1 the one that it serves, 2 the line of the test.
-            System.out.println(new Throwable().getStackTrace()[2] + ": answered " + got + ", due is " + want);
+            tell("answered " + got + ", due is " + want);
         }
+    }
+
+    private void tell(String what) {
+        wrong++;
+        String quote = words.isEmpty() ? "" : " (\"" + words + "\")";
+        System.out.println(lineOfTest() + ": " + what + quote);
+    }
+
+    private static String lineOfTest() {
+        for (StackTraceElement element : new Throwable().getStackTrace()) {
+            if (element.getClassName().endsWith("Test")) {
+                return element.toString();
+            }
+        }
+        return "?";
     }
 }

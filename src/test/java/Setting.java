@@ -1,4 +1,4 @@
-/** Releases and machines in states that many tests begin with. */
+/** Numbers of the document, and releases and machines in states that many tests begin with. */
 final class Setting {
     static final int STATE = 0;
     static final int STAGE = 1;
@@ -12,10 +12,30 @@ final class Setting {
     static final int FULL = 3;
     static final int REVOKED = 4;
 
+    static final int UNHEARD = 1;
+    static final int UNWELL = 2;
+    static final int BY_HAND = 3;
+
     static final int NONE = RollStages.NONE;
-    static final int[] WRONG_NUMBERS = {-1, -2, Integer.MIN_VALUE, Integer.MAX_VALUE, 16, 30, 1 << 16};
+    static final int LOWEST = Integer.MIN_VALUE;
+    static final int HIGHEST = Integer.MAX_VALUE;
+
+    /** By a machine's number: what the document's formula makes of it. */
+    static final int[] ROWS = {
+        779, 126, 906, 253, 600, 380, 727, 507, 854, 201, 981, 328, 675, 455, 802,
+        582, 929, 276, 56, 403, 183, 530, 877, 657, 4, 351, 131, 478, 258, 605};
 
     private Setting() {
+    }
+
+    /** Numbers that none can have if there are so many: beside the ends, and such as wrap round to a right one. */
+    static int[] notBelow(int count) {
+        return new int[] {NONE, -2, count, count + 1, 16, 30, 1 << 8, 1 << 16, LOWEST, LOWEST + 1, HIGHEST};
+    }
+
+    /** A new release of 1000 bytes, without a stage. */
+    static int fresh(RollStages x, int channel) {
+        return x.release(channel, false, 1000);
     }
 
     /** A release of 1000 bytes that rolls at its one stage, which waits a tick. */
@@ -33,20 +53,29 @@ final class Setting {
         return release;
     }
 
-    static int fresh(RollStages x, int channel) {
-        return x.release(channel, false, 1000);
+    /** A new object whose release 0 rolls at the first of so many stages, with a share of 10 at each. */
+    static RollStages withWaits(int... waits) {
+        RollStages x = new RollStages();
+        fresh(x, 0);
+        for (int wait : waits) {
+            x.stage(0, 10, wait);
+        }
+        x.start(0);
+        return x;
     }
 
-    /** A machine that has the release, though it may not get it, and no pin any more. */
-    static int machineThatHas(RollStages x, int channel, int release) {
-        int machine = x.machine(channel, 0);
-        give(x, machine, release);
-        return machine;
-    }
-
+    /** Gives the machine the release, though it may not get it; it has no pin afterwards. */
     static void give(RollStages x, int machine, int release) {
         x.pin(machine, release);
         x.update(machine);
         x.pin(machine, NONE);
+    }
+
+    static String about(RollStages x, int release) {
+        StringBuilder text = new StringBuilder();
+        for (int what = STATE; what <= REPORTS; what++) {
+            text.append(what == 0 ? "" : " ").append(x.about(release, what));
+        }
+        return text.toString();
     }
 }
