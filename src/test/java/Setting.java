@@ -12,10 +12,6 @@ final class Setting {
     static final int FULL = 3;
     static final int REVOKED = 4;
 
-    static final int UNHEARD = 1;
-    static final int UNWELL = 2;
-    static final int BY_HAND = 3;
-
     static final int NONE = RollStages.NONE;
     static final int LOWEST = Integer.MIN_VALUE;
     static final int HIGHEST = Integer.MAX_VALUE;
