@@ -274,7 +274,7 @@ public final class RollStages {
     }
 
     private boolean isOpenTo(Machine m, Release r, int number) {
-        if (r.channel != m.channel || !isChannel(m.channel)) {
+        if (r.channel != m.channel || !within(m.channel, 0, bounds.length - 1)) {
             return false;
         }
         int bound = bounds[m.channel];
@@ -442,7 +442,7 @@ public final class RollStages {
         }
 
         private int valueOfStage(int[] values) {
-            return within(stageIndex, 0, values.length - 1) ? values[stageIndex] : 0;
+            return stageIndex >= 0 && stageIndex < values.length ? values[stageIndex] : 0;
         }
 
         private int allReports() {
